@@ -162,11 +162,11 @@ public final class GuidanceDesk {
         static final int MINUS_ONE = 0177776;
 
         static int widen(int word) {
-            return word | (word & TOP_BIT) << 1;
+            return word | ((word & TOP_BIT) << 1);
         }
 
         static int cut(int wide) {
-            return (wide & HIGHER_SIGN) >> 1 | wide & LOW_BITS;
+            return ((wide & HIGHER_SIGN) >> 1) | (wide & LOW_BITS);
         }
 
         static int sum(int wide, int other) {
@@ -176,8 +176,8 @@ public final class GuidanceDesk {
 
         /** 1 for a positive overflow, -1 for a negative one, 0 for none. */
         static int overflow(int wide) {
-            int sign = wide >> 15 & 1;
-            int second = wide >> 14 & 1;
+            int sign = (wide >> 15) & 1;
+            int second = (wide >> 14) & 1;
             return second - sign;
         }
 
@@ -219,12 +219,15 @@ public final class GuidanceDesk {
         static final int ROUND_LEFT = 022;
         static final int RIGHT_BY_SEVEN = 023;
 
-        static final int ADDRESSES = 010000;
-        static final int ERASABLE_ADDRESSES = 02000;
+        static final int ADDRESS_BITS = 07777;
+        static final int ERASABLE_ADDRESS_BITS = 01777;
 
         private static final int ERASABLE_WORDS = 04000;
+        private static final int ERASABLE_PLACE_BITS = 03777;
         private static final int FIXED_WORDS = 020000;
+        private static final int FIXED_PLACE_BITS = 017777;
         private static final int FIXED_BANK = 02000;
+        private static final int FIXED_BANKS = 8;
         private static final int ERASABLE_BANK = 0400;
         private static final int SWITCHED_ERASABLE = 01400;
         private static final int SWITCHED_FIXED = 02000;
@@ -243,7 +246,7 @@ public final class GuidanceDesk {
         }
 
         int changeFixed(int bank, int place, int word) {
-            int i = bank * FIXED_BANK + place & FIXED_WORDS - 1;
+            int i = (bank * FIXED_BANK + place) & FIXED_PLACE_BITS;
             int was = fixed[i];
             fixed[i] = word;
             return was;
@@ -254,9 +257,9 @@ public final class GuidanceDesk {
                 case A:
                     return Words.cut(accumulator);
                 case BB:
-                    return erasable[FB] | erasable[EB] / ERASABLE_BANK;
+                    return erasable[FB] | (erasable[EB] / ERASABLE_BANK);
                 default:
-                    return erasable[i & ERASABLE_WORDS - 1];
+                    return erasable[i & ERASABLE_PLACE_BITS];
             }
         }
 
@@ -270,7 +273,7 @@ public final class GuidanceDesk {
                     erasable[EB] = (word & 7) * ERASABLE_BANK;
                     break;
                 default:
-                    erasable[i & ERASABLE_WORDS - 1] = edited(i, word);
+                    erasable[i & ERASABLE_PLACE_BITS] = edited(i, word);
             }
         }
 
@@ -281,17 +284,17 @@ public final class GuidanceDesk {
                 case FB:
                     return word & FB_BITS;
                 case Z:
-                    return word & ADDRESSES - 1;
+                    return word & ADDRESS_BITS;
                 case ALWAYS_ZERO:
                     return 0;
                 case ROUND_RIGHT:
-                    return word >> 1 | (word & 1) << 14;
+                    return (word >> 1) | ((word & 1) << 14);
                 case SHIFT_RIGHT:
-                    return word >> 1 | word & Words.TOP_BIT;
+                    return (word >> 1) | (word & Words.TOP_BIT);
                 case ROUND_LEFT:
-                    return word << 1 & Words.WORD_BITS | word >> 14;
+                    return ((word << 1) & Words.WORD_BITS) | (word >> 14);
                 case RIGHT_BY_SEVEN:
-                    return word >> 7 & 0177;
+                    return (word >> 7) & 0177;
                 default:
                     return word;
             }
@@ -301,11 +304,7 @@ public final class GuidanceDesk {
             if (address < SWITCHED_FIXED) {
                 return get(erasablePlace(address));
             }
-            return fixed[fixedPlace(address) & FIXED_WORDS - 1];
-        }
-
-        int wideAt(int address) {
-            return Words.widen(at(address));
+            return fixed[fixedPlace(address) & FIXED_PLACE_BITS];
         }
 
         void writeAt(int address, int word) {
@@ -314,7 +313,7 @@ public final class GuidanceDesk {
             }
         }
 
-        private int erasablePlace(int address) {
+        int erasablePlace(int address) {
             return address < SWITCHED_ERASABLE ? address : erasable[EB] + address - SWITCHED_ERASABLE;
         }
 
@@ -323,7 +322,7 @@ public final class GuidanceDesk {
             if (address >= UNSWITCHED_FIXED) {
                 return address;
             }
-            int bank = erasable[FB] / FIXED_BANK % 8;
+            int bank = erasable[FB] / FIXED_BANK % FIXED_BANKS;
             return bank * FIXED_BANK + address - SWITCHED_FIXED;
         }
 
@@ -332,27 +331,22 @@ public final class GuidanceDesk {
         }
 
         void jump(int address) {
-            put(Z, address);
+            erasable[Z] = address & ADDRESS_BITS;
         }
 
-        void skip(int words) {
-            put(Z, erasable[Z] + words);
-        }
-
-        /** Adds to the word at an address; answers whether that was an overflow. */
-        boolean count(int address, int by) {
-            int sum = Words.sum(wideAt(address), by);
-            writeAt(address, Words.cut(sum));
+        /** Adds a wide number to an erasable word; answers whether that was an overflow. */
+        boolean count(int i, int by) {
+            int sum = Words.sum(Words.widen(get(i)), by);
+            put(i, Words.cut(sum));
             return Words.overflow(sum) != 0;
         }
 
-        /** Brings the word at an address nearer to 0; a 0 is left unwritten. */
-        void diminish(int address) {
-            int number = Words.number(at(address));
-            if (number > 0) {
-                writeAt(address, number - 1);
-            } else if (number < 0) {
-                count(address, Words.PLUS_ONE);
+        /** Brings an erasable word nearer to 0; a 0 is left unwritten. */
+        void diminish(int i) {
+            int word = get(i);
+            int number = Words.number(word);
+            if (number != 0) {
+                put(i, number > 0 ? word - 1 : word + 1);
             }
         }
     }
@@ -362,6 +356,7 @@ public final class GuidanceDesk {
         static final int TIMER_CHANNEL = 013;
 
         private static final int CHANNELS = 01000;
+        private static final int CHANNEL_BITS = 0777;
         private static final int ALWAYS_ZERO = 0;
         private static final int L_CHANNEL = 1;
         private static final int Q_CHANNEL = 2;
@@ -369,6 +364,7 @@ public final class GuidanceDesk {
         private static final int FIRST_CLEARED = 5;
         private static final int LAST_CLEARED = 014;
         private static final int ROWS = 16;
+        private static final int ROW_BITS = 017;
         private static final int LAMPS_OF_ROW = 03777;
 
         private final Memory memory;
@@ -388,7 +384,7 @@ public final class GuidanceDesk {
                 case Q_CHANNEL:
                     return memory.get(Memory.Q);
                 default:
-                    return words[i & CHANNELS - 1];
+                    return words[i & CHANNEL_BITS];
             }
         }
 
@@ -404,15 +400,15 @@ public final class GuidanceDesk {
                     break;
                 case LAMP_CHANNEL:
                     words[LAMP_CHANNEL] = word;
-                    rows[word >> 11 & ROWS - 1] = word & LAMPS_OF_ROW;
+                    rows[(word >> 11) & ROW_BITS] = word & LAMPS_OF_ROW;
                     break;
                 default:
-                    words[i & CHANNELS - 1] = word;
+                    words[i & CHANNEL_BITS] = word;
             }
         }
 
         int lampsOf(int row) {
-            return rows[row & ROWS - 1];
+            return rows[row & ROW_BITS];
         }
 
         // Past put, because a restart leaves the lamps as they are.
@@ -431,7 +427,7 @@ public final class GuidanceDesk {
         int wanted;
 
         void ask(int n) {
-            wanted |= 1 << n - 1;
+            wanted |= 1 << (n - 1);
         }
 
         /** The interrupt that would come, 0 if none. */
@@ -440,7 +436,7 @@ public final class GuidanceDesk {
                 return 0;
             }
             for (int n = 1; n <= LAST_INTERRUPT; n++) {
-                if ((wanted >> n - 1 & 1) != 0) {
+                if ((wanted & (1 << (n - 1))) != 0) {
                     return n;
                 }
             }
@@ -448,7 +444,7 @@ public final class GuidanceDesk {
         }
 
         void begin(int n) {
-            wanted &= ~(1 << n - 1);
+            wanted &= ~(1 << (n - 1));
             goingOn = true;
         }
 
@@ -533,6 +529,8 @@ public final class GuidanceDesk {
         private static final int INHIBIT = 4;
         private static final int EXTEND = 6;
         private static final int RESUME = 017;
+        private static final int WRITE = 1;
+        private static final int ALARM = 7;
 
         private final Memory memory;
         private final Channels channels;
@@ -583,7 +581,7 @@ public final class GuidanceDesk {
 
         private void enter(int interrupt) {
             interrupts.begin(interrupt);
-            memory.put(Memory.ZRUPT, memory.z() + 1 & Memory.ADDRESSES - 1);
+            memory.put(Memory.ZRUPT, (memory.z() + 1) & Memory.ADDRESS_BITS);
             memory.put(Memory.BRUPT, memory.at(memory.z()));
             memory.jump(START + 4 * interrupt);
         }
@@ -593,7 +591,7 @@ public final class GuidanceDesk {
             left = NONE;
             if (word == NONE) {
                 word = memory.at(memory.z());
-                memory.skip(1);
+                memory.jump(memory.z() + 1);
             }
             if (added == NONE) {
                 return word;
@@ -603,8 +601,8 @@ public final class GuidanceDesk {
 
         // Each case is 4 times the code, and the part.
         private int doPlain(int word) {
-            int k = word & Memory.ADDRESSES - 1;
-            int e = word & Memory.ERASABLE_ADDRESSES - 1;
+            int k = word & Memory.ADDRESS_BITS;
+            int e = word & Memory.ERASABLE_ADDRESS_BITS;
             switch (word >> 10) {
                 case 000: case 001: case 002: case 003:
                     control(k);
@@ -622,10 +620,10 @@ public final class GuidanceDesk {
                     exchange(Memory.L, e);
                     return 2;
                 case 012:
-                    memory.count(e, Words.PLUS_ONE);
+                    memory.count(memory.erasablePlace(e), Words.PLUS_ONE);
                     return 2;
                 case 013:
-                    addTo(memory.wideAt(e));
+                    addTo(memory.at(e));
                     memory.writeAt(e, memory.get(Memory.A));
                     return 2;
                 case 014: case 015: case 016: case 017:
@@ -648,7 +646,7 @@ public final class GuidanceDesk {
                     exchange(Memory.A, e);
                     return 2;
                 case 030: case 031: case 032: case 033:
-                    addTo(memory.wideAt(k));
+                    addTo(memory.at(k));
                     return 2;
                 default:
                     memory.put(Memory.A, memory.get(Memory.A) & memory.at(k));
@@ -658,8 +656,8 @@ public final class GuidanceDesk {
 
         // The cases are made as in doPlain.
         private int doExtended(int word) {
-            int k = word & Memory.ADDRESSES - 1;
-            int e = word & Memory.ERASABLE_ADDRESSES - 1;
+            int k = word & Memory.ADDRESS_BITS;
+            int e = word & Memory.ERASABLE_ADDRESS_BITS;
             switch (word >> 10) {
                 case 000: case 001: case 002: case 003:
                     useChannel(k >> 9, k & LAST_CHANNEL);
@@ -679,7 +677,7 @@ public final class GuidanceDesk {
                     augment(e);
                     return 2;
                 case 013:
-                    memory.diminish(e);
+                    memory.diminish(memory.erasablePlace(e));
                     return 2;
                 case 014: case 015: case 016: case 017:
                     takeDouble(k, false);
@@ -692,7 +690,7 @@ public final class GuidanceDesk {
                     extended = true;
                     return 2;
                 case 030:
-                    addTo(Words.widen(Words.turned(memory.at(e))));
+                    addTo(Words.turned(memory.at(e)));
                     return 2;
                 case 031: case 032: case 033:
                     return jumpIf(isZeroOrBelow(memory.accumulator), k);
@@ -703,18 +701,17 @@ public final class GuidanceDesk {
         }
 
         private static int behind(int e) {
-            return e + 1 & Memory.ERASABLE_ADDRESSES - 1;
+            return (e + 1) & Memory.ERASABLE_ADDRESS_BITS;
         }
 
         private static boolean isZeroOrBelow(int wide) {
             return wide == 0 || (wide & Words.HIGHER_SIGN) != 0;
         }
 
-        private void addTo(int wide) {
-            memory.accumulator = Words.sum(memory.accumulator, wide);
+        private void addTo(int word) {
+            memory.accumulator = Words.sum(memory.accumulator, Words.widen(word));
         }
 
-        // The memory comes first, so that a register exchanged with itself keeps its word.
         private void exchange(int register, int e) {
             int read = memory.at(e);
             memory.writeAt(e, memory.get(register));
@@ -747,16 +744,17 @@ public final class GuidanceDesk {
         }
 
         private void compare(int e) {
-            int x = e == Memory.A ? memory.accumulator : memory.wideAt(e);
+            int x = e == Memory.A ? memory.accumulator : Words.widen(memory.at(e));
             boolean below = (x & Words.HIGHER_SIGN) != 0;
             int size = below ? Words.WIDE_BITS - x : x;
             memory.accumulator = size == 0 ? 0 : size - 1;
-            memory.skip((below ? 2 : 0) + (size == 0 ? 1 : 0));
+            memory.jump(memory.z() + (below ? 2 : 0) + (size == 0 ? 1 : 0));
         }
 
         private void addDouble(int e) {
-            int low = Words.sum(Words.widen(memory.get(Memory.L)), memory.wideAt(behind(e)));
-            int high = Words.sum(memory.accumulator, memory.wideAt(e));
+            int l = Words.widen(memory.get(Memory.L));
+            int low = Words.sum(l, Words.widen(memory.at(behind(e))));
+            int high = Words.sum(memory.accumulator, Words.widen(memory.at(e)));
             high = Words.sum(high, unit(Words.overflow(low)));
             memory.writeAt(behind(e), Words.cut(low));
             memory.writeAt(e, Words.cut(high));
@@ -783,45 +781,40 @@ public final class GuidanceDesk {
             int overflow = Words.overflow(memory.accumulator);
             memory.writeAt(e, memory.get(Memory.A));
             if (overflow != 0) {
-                memory.skip(1);
+                memory.jump(memory.z() + 1);
                 memory.accumulator = unit(overflow);
             }
         }
 
+        // An odd way writes the channel, and all but the first odd one change A.
         private void useChannel(int way, int i) {
-            int a = memory.get(Memory.A);
-            int word = channels.get(i);
-            switch (way) {
-                case 0:
-                    memory.put(Memory.A, word);
-                    break;
-                case 1:
-                    channels.put(i, a);
-                    break;
-                case 2:
-                    memory.put(Memory.A, a & word);
-                    break;
-                case 3:
-                    setBoth(i, a & word);
-                    break;
-                case 4:
-                    memory.put(Memory.A, a | word);
-                    break;
-                case 5:
-                    setBoth(i, a | word);
-                    break;
-                case 6:
-                    memory.put(Memory.A, a ^ word);
-                    break;
-                default:
-                    alarms++;
-                    startAgain();
+            if (way == ALARM) {
+                alarms++;
+                startAgain();
+                return;
+            }
+            int result = joined(way, memory.get(Memory.A), channels.get(i));
+            if (way != WRITE) {
+                memory.put(Memory.A, result);
+            }
+            if (way % 2 == 1) {
+                channels.put(i, result);
             }
         }
 
-        private void setBoth(int i, int word) {
-            memory.put(Memory.A, word);
-            channels.put(i, word);
+        private static int joined(int way, int a, int word) {
+            switch (way) {
+                case 0:
+                    return word;
+                case WRITE:
+                    return a;
+                case 2: case 3:
+                    return a & word;
+                case 4: case 5:
+                    return a | word;
+                default:
+                    return a ^ word;
+            }
         }
 
         private void divide(int e) {
@@ -848,17 +841,18 @@ public final class GuidanceDesk {
         }
 
         private void subtractPlain(int e) {
-            int rest = memory.get(Memory.A) - memory.at(e) & Words.WORD_BITS;
+            int rest = (memory.get(Memory.A) - memory.at(e)) & Words.WORD_BITS;
             memory.put(Memory.A, Words.isNegative(rest) ? rest - 1 : rest);
         }
 
         private void augment(int e) {
-            boolean below = Words.isNegative(memory.at(e));
-            memory.count(e, below ? Words.MINUS_ONE : Words.PLUS_ONE);
+            int place = memory.erasablePlace(e);
+            boolean below = Words.isNegative(memory.get(place));
+            memory.count(place, below ? Words.MINUS_ONE : Words.PLUS_ONE);
         }
 
         private void takeDouble(int k, boolean turn) {
-            int next = k + 1 & Memory.ADDRESSES - 1;
+            int next = (k + 1) & Memory.ADDRESS_BITS;
             memory.put(Memory.L, Words.turnedIf(turn, memory.at(next)));
             memory.put(Memory.A, Words.turnedIf(turn, memory.at(k)));
         }

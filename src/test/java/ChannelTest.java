@@ -5,6 +5,7 @@ public final class ChannelTest {
     public static void main(String[] args) {
         Check check = new Check();
         words(check);
+        eachAlone(check);
         keys(check);
         lamps(check);
         figures(check);
@@ -32,10 +33,26 @@ public final class ChannelTest {
         check.due("L", desk.peek(Rig.L), 0401);
         check.due("Q", desk.peek(Rig.Q), 0402);
         check.due("EB", desk.peek(Rig.EB), 0);
+        desk.send(7, 0);
+        check.due("0 sent", desk.channel(7), 0);
         desk.poke(Rig.L, 12);
         desk.poke(Rig.Q, 34);
         check.due("channel 1 of L", desk.channel(1), 12);
         check.due("channel 2 of Q", desk.channel(2), 34);
+    }
+
+    private static void eachAlone(Check check) {
+        for (int i = 0; i <= 011; i++) {
+            GuidanceDesk desk = new GuidanceDesk();
+            desk.send(i, 1);
+            for (int other = 0; other <= 011; other++) {
+                int due = i == other && i != 0 ? 1 : 0;
+                check.due("channel " + other + " when " + i + " is sent", desk.channel(other), due);
+            }
+            check.due("L when " + i + " is sent", desk.peek(Rig.L), i == 1 ? 1 : 0);
+            check.due("Q when " + i + " is sent", desk.peek(Rig.Q), i == 2 ? 1 : 0);
+            check.due("lamps when " + i + " is sent", desk.lamps(0), i == 010 ? 1 : 0);
+        }
     }
 
     private static void keys(Check check) {

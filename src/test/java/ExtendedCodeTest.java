@@ -146,6 +146,10 @@ public final class ExtendedCodeTest {
         divide(0, turned(0), turned(5), turned(0), 0);
         divide(turned(0), 0, 5, turned(0), turned(0));
         divide(turned(0), 0, turned(5), 0, turned(0));
+        divide(0, 5, 1, 5, 0);
+        divide(0, 5, turned(1), turned(5), 0);
+        divide(0, turned(1), 3, turned(0), turned(1));
+        divide(0, 1, 3, 0, 1);
         divide(037776, 037777, 037777, 16383, 16382);
         CHECK.due("A cut is divided", done(new Rig().wide(040001).poke(X, 3), 010000 + X, 6, 04002).wide(),
                 5461);
@@ -341,6 +345,7 @@ public final class ExtendedCodeTest {
         multiply(037777, 040000, 040001, 077776);
         multiply(0140000, 040000, 037776, 1);
         multiply(077776 + 0100000, 5, 077777, 077772);
+        multiply(1, 077776, 077777, 077776);
         multiply(0, 077772, 0, 0);
         multiply(0177777, 5, 0, 0);
         multiply(020000, 2, 1, 0);

@@ -17,6 +17,7 @@ public final class PlainCodeTest {
         addToStorage();
         takeAndTurn();
         addAndMask();
+        fixedWords();
         addToNext();
         resume();
         exchangeDouble();
@@ -37,7 +38,7 @@ public final class PlainCodeTest {
     private static void control() {
         GuidanceDesk desk = done(new Rig(), 00123, 1, 0123);
         CHECK.due("Q behind a call", desk.peek(Rig.Q), 04001);
-        for (int k : new int[] {0, 1, 2, 5, 7, 02000, 07777}) {
+        for (int k : new int[] {0, 1, 2, 5, 7, 02000, 02003, 04004, 06006, 07777}) {
             desk = done(new Rig(), k, 1, k);
             CHECK.due("Q behind a call of " + k, desk.peek(Rig.Q), 04001);
             CHECK.due("not inhibited", desk.told(0), 0);
@@ -234,6 +235,19 @@ public final class PlainCodeTest {
     private static void mask(int a, int word, int due) {
         GuidanceDesk desk = done(new Rig().wide(a).poke(X, word), 070000 + X, 2, 04001);
         CHECK.due("bits of " + a + " and " + word, desk.wide(), due);
+    }
+
+    private static void fixedWords() {
+        int at = 06543;
+        int word = 070707;
+        CHECK.due("fixed word", done(fixedWord(at, word), 030000 + at, 2, 04001).wide(), 0170707);
+        CHECK.due("fixed word turned", done(fixedWord(at, word), 040000 + at, 2, 04001).wide(), 07070);
+        CHECK.due("fixed word added", done(fixedWord(at, word), 060000 + at, 2, 04001).wide(), 0171340);
+        CHECK.due("fixed word's bits", done(fixedWord(at, word), 070000 + at, 2, 04001).wide(), 0401);
+    }
+
+    private static Rig fixedWord(int address, int word) {
+        return new Rig().wide(0431).programAt(address, word);
     }
 
     private static void addToNext() {
