@@ -2,8 +2,10 @@ import java.util.Random;
 
 /** Any calls in any state: nothing but what the document names is thrown, and all answers are in range. */
 public final class AnyRunTest {
-    private static final int RUNS = 300;
+    private static final int RUNS = 1000;
+    // A desk is good for so many calls, and one choice here makes at most five.
     private static final int CALLS = 512;
+    private static final int CALLS_OF_ONE_CHOICE = 5;
 
     private static final Check CHECK = new Check();
 
@@ -20,7 +22,7 @@ public final class AnyRunTest {
         for (int i = 0; i < words; i++) {
             desk.fix(2 + random.nextInt(2), random.nextInt(100), random.nextInt(32768));
         }
-        for (int i = words; i < CALLS; i++) {
+        for (int i = words; i <= CALLS - CALLS_OF_ONE_CHOICE; i += CALLS_OF_ONE_CHOICE) {
             try {
                 anyCall(desk, random);
             } catch (IllegalArgumentException e) {

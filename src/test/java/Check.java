@@ -1,11 +1,17 @@
 /** Counts the answers that are not as due, and ends a test. */
 final class Check {
     private int wrong;
+    private String sentence = "";
+
+    /** Names the promise, or the terms it leans on, and the sentence that the next answers are held to. */
+    void sentence(String promise, String words) {
+        sentence = promise + ", \"" + words + "\": ";
+    }
 
     void due(String what, long got, long want) {
         if (got != want) {
             wrong++;
-            System.out.println(what + " answered " + got + " (0" + Long.toOctalString(got)
+            System.out.println(sentence + what + " answered " + got + " (0" + Long.toOctalString(got)
                     + "), due is " + want + " (0" + Long.toOctalString(want) + ")");
         }
     }
@@ -22,7 +28,7 @@ final class Check {
             return;
         }
         wrong++;
-        System.out.println(what + " was not refused");
+        System.out.println(sentence + what + " was not refused");
     }
 
     void end() {

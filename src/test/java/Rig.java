@@ -69,4 +69,28 @@ final class Rig {
         desk.step(n);
         return this;
     }
+
+    /** Does one instruction, at 04000. */
+    GuidanceDesk does(int word) {
+        return program(word).run(1).desk;
+    }
+
+    /** Does one instruction at an address that no bank moves. */
+    GuidanceDesk doesAt(int address, int word) {
+        return programAt(address, word).poke(Z, address).run(1).desk;
+    }
+
+    /** Does one extended instruction, at 04001 behind the one that extends it. */
+    GuidanceDesk doesExtended(int word) {
+        return program(EXTEND, word).run(2).desk;
+    }
+
+    static int turned(int word) {
+        return 077777 - word;
+    }
+
+    /** A word as a wide number. */
+    static int widened(int word) {
+        return word < 040000 ? word : word + 0100000;
+    }
 }
