@@ -19,6 +19,7 @@ public final class InterruptEdgesTest {
         behindOtherInstructions();
         zruptGoesRound();
         bruptIsTheWordAtZ();
+        bruptFromTheRegisters();
         inPlaceOfAnInstruction();
         goingOnUntilResume();
         possibleBehindResume();
@@ -164,6 +165,17 @@ public final class InterruptEdgesTest {
         CHECK.due("from the first address", rig.desk.peek(Rig.BRUPT), 012345);
         rig = wanting(new Rig().poke(Rig.EB, 03400).poke(03777, 054321).poke(Rig.Z, 01777), 1).run(1);
         CHECK.due("from an erasable bank", rig.desk.peek(Rig.BRUPT), 054321);
+    }
+
+    private static void bruptFromTheRegisters() {
+        CHECK.sentence("Promise 11, interrupts", "ZRUPT becomes Z and one more (modulo 010000), BRUPT the word at Z,"
+                + " Z becomes 04000 and 4 times its number");
+        Rig rig = wanting(new Rig().poke(Rig.ZRUPT, 0123).poke(Rig.Z, Rig.ZRUPT), 1).run(1);
+        CHECK.due("the word at ZRUPT, which is Z and one more by then", rig.desk.peek(Rig.BRUPT), 016);
+        rig = wanting(new Rig().poke(Rig.BRUPT, 0123).poke(Rig.Z, Rig.BRUPT), 1).run(1);
+        CHECK.due("the word at BRUPT itself", rig.desk.peek(Rig.BRUPT), 0123);
+        rig = wanting(new Rig().poke(Rig.Z, Rig.Z), 1).run(1);
+        CHECK.due("the word at Z itself, not yet 04004", rig.desk.peek(Rig.BRUPT), 5);
     }
 
     private static void inPlaceOfAnInstruction() {

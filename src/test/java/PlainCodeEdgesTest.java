@@ -8,6 +8,7 @@ public final class PlainCodeEdgesTest {
 
     public static void main(String[] args) {
         zGoesRound();
+        takenBeforeZMoves();
         partsAndErasableAddress();
         accumulatorAsAWord();
         orders();
@@ -20,6 +21,8 @@ public final class PlainCodeEdgesTest {
         addDoubleOverflows();
         addDoubleGoesRound();
         addDoubleInOrder();
+        addDoubleInOrderThroughABank();
+        addDoubleOfTheAccumulator();
         exchangeL();
         exchangeLWithRegisters();
         count();
@@ -32,6 +35,7 @@ public final class PlainCodeEdgesTest {
         resumeLeavesAWord();
         addedSumIsCut();
         exchangeDouble();
+        exchangeDoubleThroughABank();
         exchangeDoubleGoesRound();
         store();
         storeSkipsRound();
@@ -49,6 +53,16 @@ public final class PlainCodeEdgesTest {
         desk.step(1);
         CHECK.due("the word at address 0, A, is done then", desk.peek(X), 2);
         CHECK.due("Z behind address 0", desk.peek(Rig.Z), 1);
+    }
+
+    private static void takenBeforeZMoves() {
+        CHECK.sentence("Promise 11, an instruction",
+                "The instruction at address Z is taken, Z becomes one more (modulo 010000), then it is done.");
+        // At address 5 stands Z itself: 5 is taken, a call of 5; one more would be 6, which extends.
+        GuidanceDesk desk = new Rig().poke(Rig.Z, Rig.Z).run(1).desk;
+        CHECK.due("Z", desk.peek(Rig.Z), 5);
+        CHECK.due("Q, Z and one more", desk.peek(Rig.Q), 6);
+        CHECK.due("extended", desk.told(3), 0);
     }
 
     private static void partsAndErasableAddress() {
@@ -224,6 +238,27 @@ public final class PlainCodeEdgesTest {
         CHECK.due("A with L", desk.wide(), 0);
     }
 
+    private static void addDoubleInOrderThroughABank() {
+        CHECK.sentence("Promise 11, code 2, part 0", "[E + 1] becomes x cut, then [E] y cut");
+        // [01403] is EB in bank 0, and moves what [01402] is, from Q to 0402.
+        GuidanceDesk desk = new Rig().poke(Rig.A, 5).poke(Rig.L, 0400).poke(Rig.Q, 7).poke(0402, 011)
+                .does(ADD_DOUBLE + 01402);
+        CHECK.due("EB is x", desk.peek(Rig.EB), 0400);
+        CHECK.due("[01402] in the new bank is y, the sum of A and Q", desk.peek(0402), 014);
+        CHECK.due("[01402] in the old bank", desk.peek(Rig.Q), 7);
+        desk = new Rig().poke(Rig.A, 0400).poke(Rig.L, 02000).does(ADD_DOUBLE + 01403);
+        CHECK.due("FB, [01404] while EB is 0", desk.peek(Rig.FB), 02000);
+        CHECK.due("EB then", desk.peek(Rig.EB), 0400);
+        CHECK.due("[01404] in the new bank", desk.peek(0404), 0);
+    }
+
+    private static void addDoubleOfTheAccumulator() {
+        CHECK.sentence("Promise 11, code 2, part 0",
+                "[K] is what is at address K, as a word (so of A what it is, cut)");
+        CHECK.due("040001 and 1", new Rig().wide(040001).does(ADD_DOUBLE).wide(), 1);
+        CHECK.due("0137776 and -1", new Rig().wide(0137776).does(ADD_DOUBLE).wide(), MINUS_ONE);
+    }
+
     private static void exchangeL() {
         CHECK.sentence("Promise 11, code 2, part 1", "L and [E] change places.");
         GuidanceDesk desk = new Rig().poke(Rig.L, 077777).poke(X, 0).does(022000 + X);
@@ -397,6 +432,17 @@ public final class PlainCodeEdgesTest {
         desk = new Rig().wide(0137776).poke(Rig.L, 2).does(052000);
         CHECK.due("A of E = 0, cut", desk.wide(), 0177776);
         CHECK.due("L of E = 0", desk.peek(Rig.L), 2);
+    }
+
+    private static void exchangeDoubleThroughABank() {
+        CHECK.sentence("Promise 11, code 5, part 1", "L and [E + 1] change places, then A and [E].");
+        // [01403] is EB in bank 0, and moves what [01402] is, from Q to 0402.
+        GuidanceDesk desk = new Rig().poke(Rig.A, 5).poke(Rig.L, 0400).poke(Rig.Q, 7).poke(0402, 011).does(053402);
+        CHECK.due("EB has L", desk.peek(Rig.EB), 0400);
+        CHECK.due("L has EB", desk.peek(Rig.L), 0);
+        CHECK.due("A has [01402] in the new bank", desk.wide(), 011);
+        CHECK.due("[01402] in the new bank has A", desk.peek(0402), 5);
+        CHECK.due("[01402] in the old bank", desk.peek(Rig.Q), 7);
     }
 
     private static void exchangeDoubleGoesRound() {
